@@ -1,0 +1,33 @@
+/** Counts the answers that are not the due ones, and ends a test with exit code 1 if there was one. */
+final class Answers {
+    private int asked = 0;
+    private int wrong = 0;
+    private String topic = "";
+
+    void about(String newTopic) {
+        topic = newTopic;
+    }
+
+    void due(long want, String call, long got) {
+        asked++;
+        if (got != want) {
+            wrong++;
+            System.out.println(topic + ": " + call + " answered " + got + ", due is " + want);
+        }
+    }
+
+    void due(boolean want, String call, boolean got) {
+        due(want ? 1 : 0, call, got ? 1 : 0);
+    }
+
+    boolean anyWrong() {
+        return wrong > 0;
+    }
+
+    void end() {
+        System.out.println(asked - wrong + " of " + asked + " answers are as due");
+        if (wrong > 0) {
+            System.exit(1);
+        }
+    }
+}
