@@ -23,6 +23,8 @@ public final class GrossSettlement {
     private static final int MOST_INSTRUCTIONS = 40;
     private static final int MOST_WAITING = 10;
     private static final int NONE = -1;
+    /** Far above what 512 calls can bring about. */
+    private static final long WITHOUT_END = 1L << 62;
 
     private static final int HOLDINGS = PARTICIPANTS * ASSETS;
     private static final int PAIRS = PARTICIPANTS * PARTICIPANTS;
@@ -361,7 +363,7 @@ public final class GrossSettlement {
         long room(int position) {
             if (position >= HOLDINGS) {
                 int i = position - HOLDINGS;
-                return limits[i] == NONE ? Long.MAX_VALUE : limits[i] - nets[i];
+                return limits[i] == NONE ? WITHOUT_END : limits[i] - nets[i];
             }
             boolean isMoney = position % ASSETS == MONEY;
             return isMoney ? held[position] + creditOf(position / ASSETS) : held[position];
