@@ -9,15 +9,27 @@ final class Answers {
     }
 
     void due(long want, String call, long got) {
+        count(got == want, call, want, got);
+    }
+
+    void due(boolean want, String call, boolean got) {
+        count(got == want, call, want, got);
+    }
+
+    void due(String want, String call, String got) {
+        count(got.equals(want), call, want, got);
+    }
+
+    private void count(boolean isRight, String call, Object want, Object got) {
         asked++;
-        if (got != want) {
+        if (!isRight) {
             wrong++;
             System.out.println(topic + ": " + call + " answered " + got + ", due is " + want);
         }
     }
 
-    void due(boolean want, String call, boolean got) {
-        due(want ? 1 : 0, call, got ? 1 : 0);
+    int asked() {
+        return asked;
     }
 
     boolean anyWrong() {
