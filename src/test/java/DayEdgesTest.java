@@ -192,6 +192,73 @@ public final class DayEdgesTest extends Edges {
         }
     }
 
+    /** .. what each one holds and has pledged of each asset */
+    void syncOfEachPosition() {
+        issueAndPledge(10);
+        x.sync();
+        issueAndPledge(1);
+        x.crash();
+        for (int p = 0; p < 6; p++) {
+            holds(p, 10 * (p + 1), 20 * (p + 1), 30 * (p + 1));
+            due(20 * (p + 1), "pledged", x.position(p, 1, 1));
+            due(30 * (p + 1), "pledged", x.position(p, 2, 1));
+        }
+    }
+
+    private void issueAndPledge(int unit) {
+        for (int p = 0; p < 6; p++) {
+            x.issue(p, 0, unit * (p + 1));
+            for (int security = 1; security < 3; security++) {
+                x.issue(p, security, 2 * unit * (p + 1) * (security + 1));
+                x.pledge(p, security, unit * (p + 1) * (security + 1));
+            }
+        }
+    }
+
+    /** .. the limit of each two, and NET of each two */
+    void syncOfEachTwo() {
+        Probes sure = Probes.of(y -> {
+            limitAndPay(y, 20);
+            y.sync();
+        });
+        Probes back = Probes.of(y -> {
+            limitAndPay(y, 20);
+            y.sync();
+            limitAndPay(y, -1);
+            y.crash();
+        });
+        due(true, "all is as it was", sure.differenceTo(back) == null);
+    }
+
+    private static void limitAndPay(GrossSettlement y, int limit) {
+        for (int p = 0; p < 6; p++) {
+            y.issue(p, 0, 100);
+            for (int q = 0; q < 6; q++) {
+                y.limit(p, q, limit);
+            }
+        }
+        if (limit > 0) {
+            y.advance();
+        }
+        for (int p = 0; p < 6; p++) {
+            for (int q = 0; q < p; q++) {
+                y.pay(p, q, p, 1);
+            }
+        }
+    }
+
+    /** .. the places of ten that wait */
+    void syncOfTenPlaces() {
+        x = Scene.TEN.made();
+        x.sync();
+        x.cancel(6);
+        due(16, "another one is last", x.pay(5, 4, 1, 2));
+        order(9, 11, 7, 8, 12, 14, 15, 5, 13, 16);
+        x.crash();
+        order(6, 9, 11, 7, 8, 12, 14, 15, 5, 13);
+        due(BAD, "status(16)", x.status(16));
+    }
+
     /** sync itself changes nothing but what is sure */
     void syncChangesNothingElse() {
         for (Scene scene : Scene.ALL) {

@@ -1,5 +1,9 @@
+import java.util.ArrayList;
 import java.util.Arrays;
+import java.util.Collections;
+import java.util.List;
 import java.util.Random;
+import java.util.Set;
 
 /** The section "Terms" of the document, sentence by sentence. */
 public final class TermsEdgesTest extends Edges {
@@ -411,37 +415,35 @@ public final class TermsEdgesTest extends Edges {
         holds(1, 0, 0, 0);
     }
 
-    /** "It DEBITS the positions (payer, money) .. and (giver, the security)": what is behind what */
+    /**
+     * "It DEBITS the positions (payer, money), (payer to payed), if that is there, and (giver, the
+     * security)", and "BEHIND .. if .. both debit the same position": any two among three participants
+     */
     void whatEachDebits() {
-        behindPair(1, y -> y.pay(0, 1, 9, 1), y -> y.pay(0, 1, 9, 1));
-        behindPair(1, y -> y.pay(0, 1, 9, 1), y -> y.pay(0, 2, 9, 1));
-        behindPair(0, y -> y.pay(0, 1, 9, 1), y -> y.pay(1, 0, 9, 1));
-        behindPair(0, y -> y.pay(0, 1, 9, 1), y -> y.pay(2, 1, 9, 1));
-        behindPair(0, y -> y.pay(0, 1, 9, 1), y -> y.deliver(0, 1, 1, 9));
-        behindPair(0, y -> y.pay(0, 1, 9, 1), y -> y.exchange(0, 1, 1, 9, 9));
-        behindPair(1, y -> y.pay(0, 1, 9, 1), y -> y.exchange(1, 0, 1, 9, 9));
-        behindPair(1, y -> y.pay(0, 1, 9, 1), y -> y.exchange(2, 0, 2, 9, 9));
-        behindPair(0, y -> y.pay(0, 1, 9, 1), y -> y.exchange(2, 1, 2, 9, 9));
-        behindPair(1, y -> y.deliver(0, 1, 1, 9), y -> y.deliver(0, 1, 1, 9));
-        behindPair(1, y -> y.deliver(0, 1, 1, 9), y -> y.deliver(0, 2, 1, 9));
-        behindPair(0, y -> y.deliver(0, 1, 1, 9), y -> y.deliver(0, 1, 2, 9));
-        behindPair(0, y -> y.deliver(0, 1, 1, 9), y -> y.deliver(1, 0, 1, 9));
-        behindPair(0, y -> y.deliver(0, 1, 1, 9), y -> y.deliver(2, 1, 1, 9));
-        behindPair(1, y -> y.deliver(0, 1, 1, 9), y -> y.exchange(0, 2, 1, 9, 9));
-        behindPair(0, y -> y.deliver(0, 1, 1, 9), y -> y.exchange(0, 2, 2, 9, 9));
-        behindPair(0, y -> y.deliver(0, 1, 1, 9), y -> y.exchange(1, 0, 1, 9, 9));
-        behindPair(0, y -> y.deliver(0, 1, 1, 9), y -> y.pay(0, 1, 9, 1));
-        behindPair(1, y -> y.exchange(0, 1, 1, 9, 9), y -> y.exchange(0, 1, 1, 9, 9));
-        behindPair(1, y -> y.exchange(0, 1, 1, 9, 9), y -> y.exchange(0, 2, 1, 9, 9));
-        behindPair(1, y -> y.exchange(0, 1, 1, 9, 9), y -> y.exchange(2, 1, 2, 9, 9));
-        behindPair(1, y -> y.exchange(0, 1, 1, 9, 9), y -> y.exchange(0, 1, 2, 9, 9));
-        behindPair(0, y -> y.exchange(0, 1, 1, 9, 9), y -> y.exchange(0, 2, 2, 9, 9));
-        behindPair(0, y -> y.exchange(0, 1, 1, 9, 9), y -> y.exchange(1, 0, 1, 9, 9));
-        behindPair(1, y -> y.exchange(0, 1, 1, 9, 9), y -> y.pay(1, 2, 9, 1));
-        behindPair(0, y -> y.exchange(0, 1, 1, 9, 9), y -> y.pay(0, 1, 9, 1));
-        behindPair(1, y -> y.exchange(0, 1, 1, 9, 9), y -> y.deliver(0, 2, 1, 9));
-        behindPair(0, y -> y.exchange(0, 1, 1, 9, 9), y -> y.deliver(1, 0, 1, 9));
-        behindPair(0, y -> y.exchange(0, 1, 1, 9, 9), y -> y.deliver(0, 2, 2, 9));
+        List<Call> calls = new ArrayList<>();
+        List<Set<String>> debits = new ArrayList<>();
+        for (int n = 0; n < 9; n++) {
+            int p = n / 3;
+            int q = n % 3;
+            if (p == q) {
+                continue;
+            }
+            calls.add(y -> y.pay(p, q, 9, 1));
+            debits.add(Set.of(p + " money", p + " to " + q));
+            for (int security = 1; security < 3; security++) {
+                int given = security;
+                calls.add(y -> y.deliver(p, q, given, 9));
+                debits.add(Set.of(p + " security " + given));
+                calls.add(y -> y.exchange(p, q, given, 9, 9));
+                debits.add(Set.of(q + " money", q + " to " + p, p + " security " + given));
+            }
+        }
+        for (int i = 0; i < calls.size(); i++) {
+            for (int j = 0; j < calls.size(); j++) {
+                boolean isBehind = !Collections.disjoint(debits.get(i), debits.get(j));
+                behindPair(isBehind ? 1 : 0, calls.get(i), calls.get(j));
+            }
+        }
     }
 
     /** With all limits there are and with none, since a position (p to q) adds nothing here. */
@@ -561,17 +563,20 @@ public final class TermsEdgesTest extends Edges {
         statuses(2, 2, 1);
     }
 
-    /** "the first .. is settled": where two could, but not both, it is the one that comes first */
+    /**
+     * "the first .. is settled": an exchange goes before a delivery of the same security. That two
+     * which are not behind any other could not both settle never happens, for they debit nothing in
+     * common; so the order shows only in what is behind what.
+     */
     void goingThroughTakesTheFirst() {
         x.issue(0, 0, 10);
-        x.issue(1, 0, 5);
         x.issue(2, 1, 1);
         x.advance();
         x.pay(0, 5, 15, 0);
         x.exchange(2, 0, 1, 1, 8);
         x.deliver(2, 3, 1, 1);
         order(0, 1, 2);
-        due(1, "the exchange before the delivery", x.cancel(0));
+        due(1, "cancel(0)", x.cancel(0));
         statuses(1, 1, 1);
         order(2);
     }
@@ -638,6 +643,27 @@ public final class TermsEdgesTest extends Edges {
         x.pay(0, 2, 1, 1);
         due(2, "resolve()", x.resolve());
         order(2);
+    }
+
+    /** .. also what is behind an exchange in one position only, when it is left out for the other one */
+    void resolvingLeavesOutWhatIsBehindAnExchange() {
+        x.advance();
+        x.exchange(0, 1, 1, 1, 9);
+        x.pay(1, 2, 3, 1);
+        x.pay(2, 1, 3, 1);
+        due(0, "0 is short of the security", x.resolve());
+        order(0, 1, 2);
+        due(0, "prefer(0, 2)", x.prefer(0, 2));
+        due(2, "the exchange is behind them now", x.resolve());
+        order(0);
+        x = new GrossSettlement();
+        x.issue(1, 0, 8);
+        x.advance();
+        x.exchange(0, 1, 2, 1, 9);
+        x.deliver(0, 3, 2, 4);
+        x.deliver(3, 0, 2, 5);
+        due(0, "1 is short of money", x.resolve());
+        order(0, 1, 2);
     }
 
     /** "COVERED if .. no position is below its floor in the end": just the floor, and one below it */
@@ -716,6 +742,32 @@ public final class TermsEdgesTest extends Edges {
         due(6, "resolve()", x.resolve());
         order(6);
         holds(5, 1, 0, 0);
+    }
+
+    /** Where a position is below its floor, those that come later but do not debit it stay in the set. */
+    void resolvingLeavesOutOnlyWhatDebits() {
+        x.advance();
+        x.pay(0, 1, 5, 0);
+        x.pay(0, 2, 1, 1);
+        x.pay(1, 0, 5, 2);
+        due(2, "a payment to 0 comes last", x.resolve());
+        order(1);
+        x.deliver(0, 3, 1, 7);
+        x.deliver(3, 0, 1, 7);
+        due(2, "deliveries come last", x.resolve());
+        order(1);
+        x.exchange(0, 4, 2, 1, 2);
+        x.exchange(4, 5, 2, 1, 2);
+        x.exchange(5, 0, 2, 1, 1);
+        order(1, 5, 6, 7);
+        due(0, "7 is behind 1, and 5 and 6 need 7", x.resolve());
+        due(0, "prefer(1, 2)", x.prefer(1, 2));
+        due(0, "5 is short of money", x.resolve());
+        x.pay(0, 5, 1, 1);
+        order(5, 6, 7, 8, 1);
+        due(4, "exchanges", x.resolve());
+        order(1);
+        holds(0, 0, 0, 0);
     }
 
     /** What one set leaves out another may need: leaving out goes on until all is closed and covered. */
