@@ -155,6 +155,14 @@ final class PlainModel {
         return now.day == 1;
     }
 
+    int accepted() {
+        return now.instructions.size();
+    }
+
+    int settled() {
+        return (int) now.instructions.stream().filter(it -> it.status == 1).count();
+    }
+
     private static boolean participant(int p) {
         return 0 <= p && p <= 5;
     }
